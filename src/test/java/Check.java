@@ -19,17 +19,24 @@ final class Check {
         }
     }
 
-    /** The very class is asked, as what the machine throws by itself is of a class below it. */
+    /** The very class is asked and where it was thrown, as the machine and the library must not throw by themselves. */
     void refused(Repeatroll house, String what, Class<? extends RuntimeException> want, Runnable call) {
         String before = Shot.of(house);
         Class<?> got = null;
+        boolean isOwn = false;
         try {
             call.run();
         } catch (RuntimeException thrown) {
             got = thrown.getClass();
+            isOwn = isOwn(thrown);
         }
         due(what + " throws", got, want);
+        due(what + " is thrown by the house itself", isOwn, true);
         due("after " + what + " the house", Shot.of(house), before);
+    }
+
+    static boolean isOwn(Throwable thrown) {
+        return thrown.getStackTrace().length > 0 && thrown.getStackTrace()[0].getClassName().startsWith("Repeatroll") && thrown.getMessage() != null;
     }
 
     void end() {

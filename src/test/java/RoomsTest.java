@@ -26,6 +26,7 @@ public final class RoomsTest {
         hangTurned();
         hangMostLeft();
         hangOthers();
+        hangTheWidest();
         CHECK.end();
     }
 
@@ -261,5 +262,28 @@ public final class RoomsTest {
         house.wall(2, 5);
         CHECK.due("rolls of which nothing is left are not begun", house.hang(0, 5), 1);
         CHECK.due("the last one is", house.lengthOf(7), 0);
+    }
+
+    /** 1200 places and 600 strips: 20 of the height 5 go on each roll of 100, so 30 rolls are begun. */
+    private static void hangTheWidest() {
+        Repeatroll house = new Repeatroll();
+        house.motif(2, 5, 's');
+        house.colourway(0);
+        house.licence(0, 0, 0);
+        for (int web = 0; web < 10; web++) {
+            house.web(0, 300, 99, 0, 0);
+            CHECK.due("three rolls of a web", house.cut(web, 100, 0), 3);
+        }
+        for (int wall = 1; wall <= 6; wall++) {
+            CHECK.due("the widest walls", house.wall(200, 5), 200 * wall);
+        }
+        CHECK.due("the most strips", house.strips(0), 600);
+        CHECK.due("the last strip", house.need(0, 599), 5);
+        CHECK.due("an opening at the end of all", house.opening(1198, 1200), 1);
+        CHECK.due("the last strip is not hung now", house.need(0, 599), 0);
+        CHECK.due("all rolls are begun", house.hang(0, 99), 30);
+        CHECK.due("but for one strip all is gone", house.meanRoll(), 5.0 / 30.0);
+        CHECK.due("what is left is on the last one", house.lengthOf(29), 5);
+        CHECK.refused(house, "once more", MISSING, () -> house.hang(0, 99));
     }
 }
