@@ -1,6 +1,6 @@
 import java.util.Objects;
 
-/** Counts answers that are due and calls that must throw; ends the test with exit code 1 if one was wrong. */
+/** Counts answers that are due; ends the test with exit code 1 if one was wrong. */
 final class Check {
     private final String name;
     private int right;
@@ -19,22 +19,7 @@ final class Check {
         }
     }
 
-    /** The very class is asked and where it was thrown, as the machine and the library must not throw by themselves. */
-    void refused(Repeatroll house, String what, Class<? extends RuntimeException> want, Runnable call) {
-        String before = Shot.of(house);
-        Class<?> got = null;
-        boolean isOwn = false;
-        try {
-            call.run();
-        } catch (RuntimeException thrown) {
-            got = thrown.getClass();
-            isOwn = isOwn(thrown);
-        }
-        due(what + " throws", got, want);
-        due(what + " is thrown by the house itself", isOwn, true);
-        due("after " + what + " the house", Shot.of(house), before);
-    }
-
+    /** Whether a throw of the house threw it: neither the machine nor the library, which must not throw by themselves. */
     static boolean isOwn(Throwable thrown) {
         return thrown.getStackTrace().length > 0 && thrown.getStackTrace()[0].getClassName().startsWith("Repeatroll") && thrown.getMessage() != null;
     }

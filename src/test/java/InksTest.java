@@ -1,242 +1,264 @@
-/** Promises 10 to 18: inks, colourways, cylinders, contrast and false twins. */
+/** "Inks" and the promises 10 to 18: inks, colourways, cylinders, contrast and false twins. */
 public final class InksTest {
-    private static final Class<IndexOutOfBoundsException> NONE_SUCH = IndexOutOfBoundsException.class;
-    private static final Class<IllegalArgumentException> WRONG = IllegalArgumentException.class;
-    private static final Class<IllegalStateException> FULL = IllegalStateException.class;
-    private static final Class<UnsupportedOperationException> UNFIT = UnsupportedOperationException.class;
-    private static final Class<ArithmeticException> NO_MEAN = ArithmeticException.class;
-    private static final Check CHECK = new Check("InksTest");
+    private static final Book BOOK = new Book("InksTest");
+    private static final String TEN_INKS = "ink(1, 1, 1);".repeat(10);
+    private static final String EIGHT_COLOURWAYS = "motif(2, 2, 's');" + "colourway(0);".repeat(8);
+    /** A motif of 4 by 3 with a cell of each colour from 1 to 7, the colours 1 to 4 in the lowest row, and its colourway 0. */
+    private static final String SEVEN_COLOURS = "motif(4, 3, 's'); colourway(0);"
+        + "paint(0, 0, 0, 1, 1, 1); paint(0, 1, 0, 1, 1, 2); paint(0, 2, 0, 1, 1, 3); paint(0, 3, 0, 1, 1, 4); paint(0, 0, 1, 1, 1, 5); paint(0, 1, 1, 1, 1, 6); paint(0, 2, 1, 1, 1, 7);";
+    /** A motif of 4 by 3 whose colourway 0 has the colours 1 and 2, apart, to be dyed. */
+    private static final String TWO_COLOURS = "motif(4, 3, 's'); colourway(0); paint(0, 0, 0, 1, 1, 1); paint(0, 2, 1, 1, 1, 2);";
+    private static final String THREE_COLOURS = TWO_COLOURS + "paint(0, 0, 2, 1, 1, 3);";
+    private static final String NOT_WHOLE = "ink(10, 20, 30);" + TWO_COLOURS + "dye(0, 1, 0);";
+    private static final String NO_COLOURWAY = "if there is no such colourway";
 
     private InksTest() {
     }
 
     public static void main(String[] args) {
+        inks();
+        colourways();
+        cylindersOfTerms();
+        fewestOfTerms();
+        pairsOfTerms();
+        contrastOfTerms();
+        twinsOfTerms();
         ink();
         over();
         colourway();
         dye();
+        dyeRefused();
         isWhole();
         cylinders();
-        cylindersOfPairs();
         made();
         contrast();
         falseTwins();
-        CHECK.end();
+        BOOK.end();
+    }
+
+    private static String grey(int... lights) {
+        StringBuilder inks = new StringBuilder();
+        for (int light : lights) {
+            inks.append("ink(L, L, L);".replace("L", String.valueOf(light)));
+        }
+        return inks.toString();
+    }
+
+    private static void inks() {
+        BOOK.open("Inks");
+        BOOK.holds("At most 10 inks are numbered from 0",
+            "ink(1, 1, 1) = 0; ink(2, 1, 1) = 1; ink(3, 1, 1) = 2; ink(4, 1, 1) = 3; ink(5, 1, 1) = 4; ink(6, 1, 1) = 5; ink(7, 1, 1) = 6; ink(8, 1, 1) = 7; ink(9, 1, 1) = 8; ink(100, 1, 1) = 9",
+            "ink(1, 1, 1) = throws.IllegalStateException; over(9, 9, 0) = 100; over(8, 9, 0) = 9; over(10, 0, 0) = throws.IndexOutOfBoundsException");
+        BOOK.holds("each with a lightness, 0 to 100, under each of three lamps", "ink(0, 50, 100) = 0; ink(100, 100, 100) = 1; over(0, 1, 0) = 0; over(0, 1, 1) = 50; over(0, 1, 2) = 100");
+        BOOK.refuses(Book.WRONG, "a lightness, 0 to 100", "", "ink(-1, 0, 0); ink(101, 0, 0); ink(0, -1, 0); ink(0, 101, 0); ink(0, 0, -1); ink(0, 0, 101)");
+        BOOK.holds("three lamps, 0 to 2", "ink(100, 30, 7); over(0, 0, 0) = 100; over(0, 0, 2) = 0; over(0, 0, 3) = throws.IndexOutOfBoundsException; over(0, 0, -1) = throws.IndexOutOfBoundsException");
+        BOOK.holds("the product of both divided by 100", "ink(100, 0, 10) ; ink(37, 100, 10); over(0, 1, 0) = 37; over(1, 0, 0) = 37; over(0, 1, 1) = 0; over(0, 1, 2) = 1; over(0, 0, 0) = 100; over(0, 0, 1) = 0");
+        BOOK.holds("divided by 100, cut", "ink(99, 11, 33); ink(99, 9, 50); over(0, 1, 0) = 98; over(0, 1, 1) = 0; over(0, 1, 2) = 16; over(1, 0, 2) = 16; over(0, 0, 2) = 10");
+        BOOK.holds("under each lamp", "ink(80, 50, 20); ink(50, 40, 90); over(0, 1, 0) = 40; over(0, 1, 1) = 20; over(0, 1, 2) = 18");
+    }
+
+    private static void colourways() {
+        BOOK.holds("At most 8 colourways are numbered from 0", "motif(2, 2, 's'); colourway(0) = 0; colourway(0) = 1; colourway(0) = 2; colourway(0) = 3; colourway(0) = 4; colourway(0) = 5; colourway(0) = 6; colourway(0) = 7",
+            "colourway(0) = throws.IllegalStateException; isWhole(7) = true; isWhole(8) = throws.IndexOutOfBoundsException");
+        BOOK.holds("each of a motif", "motif(2, 2, 's'); motif(2, 2, 's'); colourway(0); colourway(1); paint(1, 0, 0, 1, 1, 1); isWhole(0) = true; isWhole(1) = false");
+        BOOK.holds("each colour that some cell has", grey(10), TWO_COLOURS, "dye(0, 1, 0); isWhole(0) = false; dye(0, 2, 0); isWhole(0) = true; paint(0, 3, 2, 1, 1, 7); isWhole(0) = false; paint(0, 3, 2, 1, 1, 2); isWhole(0) = true");
+        BOOK.holds("not the ground, is told an ink", "motif(2, 2, 's'); colourway(0); isWhole(0) = true; ink(1, 1, 1); dye(0, 0, 0) = throws.IllegalArgumentException");
+        BOOK.holds("not the ground, is told an ink", grey(10), "motif(2, 2, 's'); colourway(0); paint(0, 0, 0, 2, 2, 3); dye(0, 3, 0); isWhole(0) = true; paint(0, 0, 0, 1, 1, 0); isWhole(0) = true");
+        BOOK.holds("it is whole if each of these has one", grey(10), SEVEN_COLOURS,
+            "dye(0, 1, 0); dye(0, 2, 0); dye(0, 3, 0); dye(0, 5, 0); dye(0, 6, 0); dye(0, 7, 0); isWhole(0) = false; dye(0, 4, 0); isWhole(0) = true");
+    }
+
+    private static void cylindersOfTerms() {
+        BOOK.holds("the ink of each colour that it has is among them", grey(90, 80, 70), TWO_COLOURS, "dye(0, 1, 2); dye(0, 2, 0); cylinders(0) = 5; dye(0, 2, 2); cylinders(0) = 4");
+        BOOK.holds("the ink of each colour that it has is among them", grey(90, 80), TWO_COLOURS, "dye(0, 1, 1); dye(0, 2, 1); dye(0, 3, 0); cylinders(0) = 2; paint(0, 3, 2, 1, 1, 3); cylinders(0) = 3");
+        BOOK.holds("or two unlike ones of them", grey(80, 50, 40), THREE_COLOURS, "dye(0, 1, 0); dye(0, 2, 1); dye(0, 3, 2); cylinders(0) = 3");
+        BOOK.holds("or two unlike ones of them", grey(50, 25), TWO_COLOURS, "dye(0, 1, 0); dye(0, 2, 1); cylinders(0) = 3; made(0, 2) = 2");
+        BOOK.holds("or two unlike ones of them", grey(50, 25, 50), THREE_COLOURS, "dye(0, 1, 0); dye(0, 2, 1); dye(0, 3, 2); cylinders(0) = 5; made(0, 2) = 5");
+        BOOK.holds("of them, one over the other", grey(90, 80, 40, 50), TWO_COLOURS, "dye(0, 1, 0); dye(0, 2, 2); cylinders(0) = 5; made(0, 2) = 4");
+        BOOK.holds("of them, one over the other", grey(80, 50, 40, 30), THREE_COLOURS, "dye(0, 1, 0); dye(0, 2, 2); dye(0, 3, 3); cylinders(0) = 11; made(0, 2) = 3");
+        BOOK.holds("have its lightness under all lamps", grey(80, 50), "ink(41, 40, 40);", THREE_COLOURS, "dye(0, 1, 0); dye(0, 2, 1); dye(0, 3, 2); cylinders(0) = 7");
+        BOOK.holds("have its lightness under all lamps", grey(80, 50), "ink(40, 41, 40);", THREE_COLOURS, "dye(0, 1, 0); dye(0, 2, 1); dye(0, 3, 2); cylinders(0) = 7");
+        BOOK.holds("have its lightness under all lamps", grey(80, 50), "ink(40, 40, 39);", THREE_COLOURS, "dye(0, 1, 0); dye(0, 2, 1); dye(0, 3, 2); cylinders(0) = 7");
+        BOOK.holds("have its lightness under all lamps", "ink(80, 90, 100); ink(50, 50, 33); ink(40, 45, 33);", THREE_COLOURS, "dye(0, 1, 0); dye(0, 2, 1); dye(0, 3, 2); cylinders(0) = 3");
+        BOOK.holds("have its lightness", grey(99, 50, 49), THREE_COLOURS, "dye(0, 1, 0); dye(0, 2, 1); dye(0, 3, 2); cylinders(0) = 3");
+        BOOK.holds("have its lightness", grey(9, 11, 0), THREE_COLOURS, "dye(0, 1, 0); dye(0, 2, 1); dye(0, 3, 2); cylinders(0) = 3");
+    }
+
+    private static void fewestOfTerms() {
+        BOOK.holds("The fewest are taken", grey(80, 50, 40), TWO_COLOURS, "dye(0, 1, 2); dye(0, 2, 2); cylinders(0) = 4; made(0, 1) = 4");
+        BOOK.holds("The fewest are taken", grey(80, 50, 40), TWO_COLOURS, "paint(0, 0, 0, 4, 3, 0); cylinders(0) = 0");
+        BOOK.holds("The fewest are taken", grey(80, 50, 40, 20, 32), SEVEN_COLOURS,
+            "dye(0, 1, 0); dye(0, 2, 1); dye(0, 3, 2); dye(0, 4, 0); dye(0, 5, 1); dye(0, 6, 3); dye(0, 7, 4); cylinders(0) = 7; made(0, 6) = 6; made(0, 7) = 5");
+        BOOK.holds("of several sets the one with the least sum of 2 to the power of the numbers", grey(60, 30, 30, 50), TWO_COLOURS, "dye(0, 1, 1); dye(0, 2, 2); cylinders(0) = 6");
+        BOOK.holds("of several sets the one with the least sum of 2 to the power of the numbers", grey(30, 60, 50, 30), TWO_COLOURS, "dye(0, 1, 0); dye(0, 2, 3); cylinders(0) = 6; made(0, 1) = 6; made(0, 2) = 6");
+        BOOK.holds("of several sets the one with the least sum of 2 to the power of the numbers", grey(100, 30, 30), TWO_COLOURS, "dye(0, 1, 1); dye(0, 2, 2); cylinders(0) = 3; made(0, 1) = 2; made(0, 2) = 3");
+        BOOK.holds("of several sets the one with the least sum of 2 to the power of the numbers", grey(0, 0, 50), TWO_COLOURS, "dye(0, 1, 0); dye(0, 2, 1); cylinders(0) = 3; made(0, 2) = 2");
+    }
+
+    private static void pairsOfTerms() {
+        BOOK.holds("A colour whose ink is not among them is made by the two of them with the least numbers, the lower one first, that do", grey(80, 60, 40, 30, 24), SEVEN_COLOURS,
+            "dye(0, 1, 0); dye(0, 2, 1); dye(0, 3, 2); dye(0, 4, 3); dye(0, 5, 4); dye(0, 6, 0); dye(0, 7, 0); cylinders(0) = 15; made(0, 5) = 9; made(0, 4) = 8; made(0, 1) = 1");
+        BOOK.holds("the two of them with the least numbers", grey(20, 40, 50, 100, 90), SEVEN_COLOURS,
+            "dye(0, 1, 0); dye(0, 2, 1); dye(0, 3, 2); dye(0, 4, 4); dye(0, 5, 4); dye(0, 6, 4); dye(0, 7, 4); cylinders(0) = 22; made(0, 1) = 6; made(0, 2) = 2; made(0, 4) = 16");
+        BOOK.holds("the lower one first", grey(60, 90, 30, 80, 10, 18), SEVEN_COLOURS,
+            "dye(0, 1, 0); dye(0, 2, 1); dye(0, 3, 2); dye(0, 4, 3); dye(0, 5, 4); dye(0, 6, 5); dye(0, 7, 0); cylinders(0) = 31; made(0, 6) = 5");
+        BOOK.holds("A colour whose ink is not among them", grey(50, 25, 50), THREE_COLOURS, "dye(0, 1, 0); dye(0, 2, 1); dye(0, 3, 0); cylinders(0) = 3; made(0, 2) = 2");
+    }
+
+    private static void contrastOfTerms() {
+        String inks = "ink(10, 20, 30); ink(15, 50, 0); motif(4, 3, 's'); colourway(0); dye(0, 1, 0); dye(0, 2, 1); dye(0, 3, 0);";
+        BOOK.holds("the mean of the differences of lightness", inks, "paint(0, 0, 0, 1, 1, 1); paint(0, 1, 0, 1, 1, 2); contrast(0, 0) = 5.0; contrast(0, 1) = 30.0; contrast(0, 2) = 30.0");
+        BOOK.holds("the mean of the differences of lightness", inks, "paint(0, 0, 0, 1, 1, 1); paint(0, 1, 0, 1, 1, 2); paint(0, 0, 1, 1, 1, 3); contrast(0, 0) = 2.5; contrast(0, 1) = 15.0");
+        BOOK.holds("places of the period beside or above each other", inks, "paint(0, 1, 0, 1, 1, 1); paint(0, 2, 1, 1, 1, 2); contrast(0, 0) = throws.ArithmeticException; paint(0, 1, 1, 1, 1, 1); contrast(0, 0) = 5.0");
+        BOOK.holds("beside or above each other, around", inks, "paint(0, 0, 1, 1, 1, 1); paint(0, 3, 1, 1, 1, 2); contrast(0, 1) = 30.0");
+        BOOK.holds("beside or above each other, around", inks, "paint(0, 1, 0, 1, 1, 1); paint(0, 1, 2, 1, 1, 2); contrast(0, 1) = 30.0");
+        BOOK.holds("beside or above each other, around", grey(10, 40, 20), "motif(2, 3, 's'); colourway(0); dye(0, 1, 0); dye(0, 2, 1); dye(0, 3, 2)",
+            "paint(0, 0, 0, 1, 1, 1); paint(0, 1, 0, 1, 1, 2); paint(0, 0, 1, 1, 1, 3); contrast(0, 0) = 23.333334");
+        BOOK.holds("all pairs of places of the period", grey(10, 40, 70), "motif(3, 4, 'd'); colourway(0); dye(0, 1, 0); dye(0, 2, 1); dye(0, 3, 2)",
+            "paint(0, 2, 0, 1, 1, 1); paint(0, 0, 0, 1, 1, 2); contrast(0, 0) = throws.ArithmeticException; paint(0, 0, 2, 1, 1, 3); contrast(0, 0) = 60.0");
+        BOOK.holds("that have unlike colours", inks, "paint(0, 0, 0, 2, 1, 1); contrast(0, 0) = throws.ArithmeticException; paint(0, 2, 0, 1, 1, 2); contrast(0, 0) = 5.0");
+        BOOK.holds("that have unlike colours", inks, "paint(0, 0, 0, 1, 1, 1); paint(0, 1, 0, 1, 1, 3); contrast(0, 1) = 0.0");
+        BOOK.holds("neither being the ground", inks, "paint(0, 1, 1, 1, 1, 1); contrast(0, 0) = throws.ArithmeticException; paint(0, 1, 2, 1, 1, 2); contrast(0, 0) = 5.0");
+    }
+
+    private static void twinsOfTerms() {
+        String apart = "motif(4, 3, 's'); colourway(0); paint(0, 0, 0, 1, 1, 1); paint(0, 2, 1, 1, 1, 2); ink(50, 50, 50);";
+        String dyed = "dye(0, 1, 0); dye(0, 2, 1);";
+        BOOK.holds("no more than 2 apart under the lamp 0", apart, "ink(52, 61, 50);", dyed, "falseTwins(0) = 1");
+        BOOK.holds("no more than 2 apart under the lamp 0", apart, "ink(48, 61, 50);", dyed, "falseTwins(0) = 1");
+        BOOK.holds("no more than 2 apart under the lamp 0", apart, "ink(53, 61, 50);", dyed, "falseTwins(0) = 0");
+        BOOK.holds("no more than 2 apart under the lamp 0", apart, "ink(47, 0, 100);", dyed, "falseTwins(0) = 0");
+        BOOK.holds("and more than 10 under another one", apart, "ink(50, 60, 50);", dyed, "falseTwins(0) = 0");
+        BOOK.holds("and more than 10 under another one", apart, "ink(50, 40, 60);", dyed, "falseTwins(0) = 0");
+        BOOK.holds("and more than 10 under another one", apart, "ink(50, 39, 50);", dyed, "falseTwins(0) = 1");
+        BOOK.holds("and more than 10 under another one", apart, "ink(50, 50, 61);", dyed, "falseTwins(0) = 1");
+        BOOK.holds("and more than 10 under another one", apart, "ink(51, 50, 39);", dyed, "falseTwins(0) = 1");
+        BOOK.holds("and more than 10 under another one", apart, "ink(52, 0, 100);", dyed, "falseTwins(0) = 1");
+        BOOK.holds("Two colours of a colourway are false twins", apart, "ink(50, 100, 0); dye(0, 1, 1); dye(0, 2, 1); dye(0, 3, 0); falseTwins(0) = 0");
     }
 
     private static void ink() {
-        Repeatroll house = new Repeatroll();
-        CHECK.refused(house, "ink -1 under lamp 0", WRONG, () -> house.ink(-1, 0, 0));
-        CHECK.refused(house, "ink 101 under lamp 1", WRONG, () -> house.ink(0, 101, 0));
-        CHECK.refused(house, "ink 101 under lamp 2", WRONG, () -> house.ink(0, 0, 101));
-        for (int number = 0; number < 10; number++) {
-            CHECK.due("ink " + number, house.ink(100, 0, number), number);
-        }
-        CHECK.refused(house, "an eleventh ink", FULL, () -> house.ink(1, 1, 1));
-        CHECK.refused(house, "an eleventh ink out of range", WRONG, () -> house.ink(1, 1, 101));
+        BOOK.open("Promise 10");
+        BOOK.holds("Makes an ink", "ink(1, 2, 3) = 0; ink(100, 100, 100) = 1; over(0, 1, 0) = 1; over(0, 1, 1) = 2; over(0, 1, 2) = 3");
+        BOOK.holds("`one`: the lightness under the lamp 0", "ink(0, 50, 50) = 0; ink(100, 50, 50) = 1; over(0, 1, 0) = 0; over(1, 1, 0) = 100; ink(-1, 0, 0) = throws.IllegalArgumentException; ink(101, 0, 0) = throws.IllegalArgumentException");
+        BOOK.holds("`two`: under the lamp 1", "ink(50, 0, 50) = 0; ink(50, 100, 50) = 1; over(0, 1, 1) = 0; over(1, 1, 1) = 100; ink(0, -1, 0) = throws.IllegalArgumentException; ink(0, 101, 0) = throws.IllegalArgumentException");
+        BOOK.holds("`three`: under the lamp 2", "ink(50, 50, 0) = 0; ink(50, 50, 100) = 1; over(0, 1, 2) = 0; over(1, 1, 2) = 100; ink(0, 0, -1) = throws.IllegalArgumentException; ink(0, 0, 101) = throws.IllegalArgumentException");
+        BOOK.holds("Returns its number", "ink(1, 1, 1) = 0; ink(1, 1, 1) = 1; ink(1, 1, 101) = throws.IllegalArgumentException; ink(1, 1, 1) = 2");
+        BOOK.refuses(Book.WRONG, "a number is out of range", "", "ink(2147483647, 0, 0); ink(-2147483648, 0, 0); ink(0, 2147483647, 0); ink(0, -2147483648, 0); ink(0, 0, 2147483647); ink(0, 0, -2147483648)");
+        BOOK.refuses(Book.FULL, "if there are 10", TEN_INKS, "ink(0, 0, 0); ink(100, 100, 100)");
+        BOOK.refuses(Book.WRONG, "Throws `IllegalArgumentException`", TEN_INKS, "ink(-1, 0, 0); ink(101, 0, 0); ink(0, -1, 0); ink(0, 101, 0); ink(0, 0, -1); ink(0, 0, 101)");
     }
 
     private static void over() {
-        Repeatroll house = new Repeatroll();
-        house.ink(99, 50, 100);
-        house.ink(99, 33, 7);
-        CHECK.due("over under lamp 0, cut", house.over(0, 1, 0), 98);
-        CHECK.due("over under lamp 1, cut", house.over(0, 1, 1), 16);
-        CHECK.due("over under lamp 2", house.over(1, 0, 2), 7);
-        CHECK.due("an ink over itself", house.over(1, 1, 1), 10);
-        CHECK.refused(house, "over of no ink", NONE_SUCH, () -> house.over(2, 0, 0));
-        CHECK.refused(house, "over no ink", NONE_SUCH, () -> house.over(0, -1, 0));
-        CHECK.refused(house, "over under lamp 3", NONE_SUCH, () -> house.over(0, 0, 3));
-        CHECK.refused(house, "over under lamp -1", NONE_SUCH, () -> house.over(0, 0, -1));
+        BOOK.open("Promise 11");
+        BOOK.holds("Returns the lightness of one ink over another one", "ink(99, 50, 100); ink(99, 33, 7); over(0, 1, 0) = 98; over(0, 1, 1) = 16; over(1, 0, 2) = 7");
+        BOOK.holds("`ink`: an ink", TEN_INKS.replaceFirst("1, 1, 1", "100, 2, 3"), "over(0, 0, 0) = 100; over(9, 0, 0) = 1; over(9, 9, 0) = 0; over(10, 0, 0) = throws.IndexOutOfBoundsException");
+        BOOK.holds("`other`: another one, or the same", "ink(30, 20, 100); ink(50, 50, 50); over(0, 0, 0) = 9; over(0, 0, 1) = 4; over(0, 0, 2) = 100; over(0, 1, 2) = 50; over(1, 0, 0) = 15");
+        BOOK.holds("`lamp`: 0 to 2", "ink(100, 90, 80); over(0, 0, 0) = 100; over(0, 0, 1) = 81; over(0, 0, 2) = 64; over(0, 0, 3) = throws.IndexOutOfBoundsException; over(0, 0, -1) = throws.IndexOutOfBoundsException");
+        BOOK.holds("Returns the lightness.", "ink(0, 100, 1); over(0, 0, 0) = 0; over(0, 0, 1) = 100; over(0, 0, 2) = 0");
+        BOOK.refuses(Book.NONE_SUCH, "no such ink, for either", "ink(1, 1, 1); ink(2, 2, 2)", "over(2, 0, 0); over(-1, 0, 0); over(0, 2, 0); over(0, -1, 0); over(2, 2, 0); over(2147483647, 0, 0); over(0, -2147483648, 0)");
+        BOOK.refuses(Book.NONE_SUCH, "or lamp", "ink(1, 1, 1)", "over(0, 0, 2147483647); over(0, 0, -2147483648); over(1, 0, 3); over(0, 1, -1)");
     }
 
     private static void colourway() {
-        Repeatroll house = new Repeatroll();
-        CHECK.refused(house, "colourway of no motif", NONE_SUCH, () -> house.colourway(0));
-        house.motif(2, 2, 's');
-        for (int number = 0; number < 8; number++) {
-            CHECK.due("colourway " + number, house.colourway(0), number);
-        }
-        CHECK.refused(house, "a ninth colourway", FULL, () -> house.colourway(0));
-        CHECK.refused(house, "a ninth colourway of no motif", NONE_SUCH, () -> house.colourway(1));
+        BOOK.open("Promise 12");
+        BOOK.holds("Makes a colourway without inks", grey(10), SEVEN_COLOURS, "isWhole(0) = false; dye(0, 1, 0) = -1; dye(0, 2, 0) = -1; dye(0, 3, 0) = -1; dye(0, 4, 0) = -1; dye(0, 5, 0) = -1; dye(0, 6, 0) = -1; dye(0, 7, 0) = -1");
+        BOOK.holds("Makes a colourway without inks", grey(10), TWO_COLOURS, "dye(0, 1, 0); dye(0, 2, 0); colourway(0) = 1; isWhole(1) = false; isWhole(0) = true; dye(1, 1, 0) = -1; standardBits(1) = throws.NoSuchElementException");
+        BOOK.holds("`motif`: the motif", "motif(2, 2, 's');".repeat(6), "paint(5, 0, 0, 1, 1, 1); colourway(5) = 0; colourway(0) = 1; isWhole(0) = false; isWhole(1) = true");
+        BOOK.holds("Returns its number", "motif(2, 2, 's'); colourway(0) = 0; colourway(1) = throws.IndexOutOfBoundsException; colourway(0) = 1");
+        BOOK.refuses(Book.NONE_SUCH, "no such motif", "motif(2, 2, 's')", "colourway(1); colourway(-1); colourway(2147483647); colourway(-2147483648)");
+        BOOK.refuses(Book.FULL, "if there are 8", EIGHT_COLOURWAYS, "colourway(0)");
+        BOOK.refuses(Book.NONE_SUCH, "Throws `IndexOutOfBoundsException`", EIGHT_COLOURWAYS, "colourway(1); colourway(-1)");
     }
 
     private static void dye() {
-        Repeatroll house = new Repeatroll();
-        house.motif(4, 4, 's');
-        house.colourway(0);
-        house.ink(10, 10, 10);
-        house.ink(20, 20, 20);
-        house.paint(0, 0, 0, 2, 2, 1);
-        CHECK.due("the first dye", house.dye(0, 1, 1), -1);
-        CHECK.due("the second dye", house.dye(0, 1, 0), 1);
-        CHECK.due("dye of a colour that no cell has", house.dye(0, 7, 1), -1);
-        house.slip(0, 0, 1, 0);
-        house.spread(0, 0, true);
-        CHECK.due("stained before the dye", house.stained(0) > 0, true);
-        CHECK.due("the same ink again", house.dye(0, 7, 1), 1);
-        CHECK.due("stained behind the dye", house.stained(0), 0);
-        CHECK.due("the slip is gone", house.slip(0, 0, 0, 0), 33);
-        CHECK.due("the spread is gone", house.spread(0, 0, false), false);
-        CHECK.refused(house, "dye of no colourway", NONE_SUCH, () -> house.dye(1, 0, 0));
-        CHECK.refused(house, "dye of colourway -1", NONE_SUCH, () -> house.dye(-1, 1, 0));
-        CHECK.refused(house, "dye with no ink", NONE_SUCH, () -> house.dye(0, 0, 2));
-        CHECK.refused(house, "dye with ink -1", NONE_SUCH, () -> house.dye(0, 1, -1));
-        CHECK.refused(house, "dye of the ground", WRONG, () -> house.dye(0, 0, 0));
-        CHECK.refused(house, "dye of colour 8", WRONG, () -> house.dye(0, 8, 0));
+        BOOK.open("Promise 13");
+        BOOK.holds("Tells the ink of a colour", grey(10, 20), TWO_COLOURS, "dye(0, 1, 1); dye(0, 2, 0); made(0, 1) = 2; made(0, 2) = 1; dye(0, 1, 0) = 1; made(0, 1) = 1");
+        String slipped = grey(90, 80) + TWO_COLOURS + "dye(0, 1, 0); dye(0, 2, 1); slip(0, 0, 1, -2); slip(0, 1, 3, 3); spread(0, 0, true); spread(0, 1, true);";
+        String straight = "slip(0, 0, 0, 0) = 33; slip(0, 1, 0, 0) = 33; spread(0, 0, false) = false; spread(0, 1, false) = false";
+        BOOK.holds("slips and spreads of the colourway are gone", slipped, "bare(0) = 1; stained(0) = 5; paint(0, 0, 2, 1, 1, 3); dye(0, 3, 0) = -1;", straight);
+        BOOK.holds("slips and spreads of the colourway are gone", slipped, "dye(0, 7, 1) = -1; bare(0) = 0; stained(0) = 0;", straight);
+        BOOK.holds("also if it is the ink that it was", slipped, "dye(0, 1, 0) = 0;", straight);
+        BOOK.holds("slips and spreads of the colourway are gone", slipped, "colourway(0); dye(1, 1, 0) = -1; slip(0, 0, 0, 0) = 41; spread(0, 1, false) = true");
+        BOOK.holds("slips and spreads of the colourway are gone", slipped, "dye(0, 8, 0) = throws.IllegalArgumentException; dye(0, 1, 2) = throws.IndexOutOfBoundsException; slip(0, 0, 0, 0) = 41; slip(0, 1, 0, 0) = 66; spread(0, 1, false) = true");
+        BOOK.holds("`colourway`: the colourway", EIGHT_COLOURWAYS, grey(1), "paint(0, 0, 0, 1, 1, 1); dye(7, 1, 0) = -1; isWhole(7) = true; isWhole(6) = false; isWhole(0) = false");
+        BOOK.holds("`colour`: 1 to 7", grey(5), SEVEN_COLOURS, "dye(0, 1, 0) = -1; dye(0, 7, 0) = -1; dye(0, 1, 0) = 0; dye(0, 7, 0) = 0; dye(0, 2, 0) = -1; dye(0, 6, 0) = -1");
+        BOOK.holds("`ink`: the ink", TEN_INKS, TWO_COLOURS, "dye(0, 1, 9) = -1; dye(0, 2, 0) = -1; dye(0, 1, 10) = throws.IndexOutOfBoundsException; dye(0, 1, 1) = 9; dye(0, 2, 1) = 0");
+        BOOK.holds("Returns the ink before, -1 for none", grey(1, 2, 3), TWO_COLOURS, "dye(0, 1, 2) = -1; dye(0, 1, 0) = 2; dye(0, 1, 0) = 0; dye(0, 1, 1) = 0; dye(0, 2, 1) = -1; dye(0, 5, 1) = -1; dye(0, 5, 2) = 1");
+    }
+
+    private static void dyeRefused() {
+        String dyed = grey(1, 2) + TWO_COLOURS + "dye(0, 1, 0); dye(0, 2, 1); slip(0, 0, 2, 2); spread(0, 1, true);";
+        BOOK.refuses(Book.NONE_SUCH, "no such colourway or ink", dyed, "dye(1, 1, 0); dye(-1, 1, 0); dye(2147483647, 1, 0); dye(0, 1, 2); dye(0, 1, -1); dye(0, 1, 10); dye(0, 1, -2147483648)");
+        BOOK.refuses(Book.WRONG, "no such colour", dyed, "dye(0, 0, 0); dye(0, 8, 0); dye(0, -1, 0); dye(0, 2147483647, 0); dye(0, -2147483648, 0)");
+        BOOK.refuses(Book.NONE_SUCH, "Throws `IndexOutOfBoundsException`", dyed, "dye(1, 0, 0); dye(-1, 8, 0); dye(0, 0, 2); dye(0, 8, -1)");
     }
 
     private static void isWhole() {
-        Repeatroll house = new Repeatroll();
-        house.motif(3, 3, 's');
-        house.colourway(0);
-        house.ink(1, 2, 3);
-        CHECK.due("without colours", house.isWhole(0), true);
-        house.paint(0, 1, 1, 1, 1, 7);
-        CHECK.due("with a colour without ink", house.isWhole(0), false);
-        house.dye(0, 6, 0);
-        CHECK.due("with an ink for another colour", house.isWhole(0), false);
-        house.dye(0, 7, 0);
-        CHECK.due("with the ink", house.isWhole(0), true);
-        house.paint(0, 0, 0, 1, 1, 1);
-        CHECK.due("with a further colour", house.isWhole(0), false);
-        CHECK.refused(house, "isWhole of no colourway", NONE_SUCH, () -> house.isWhole(1));
+        BOOK.open("Promise 14");
+        BOOK.holds("Returns whether a colourway is whole", grey(10), "motif(3, 3, 's'); colourway(0); isWhole(0) = true; paint(0, 1, 1, 1, 1, 7); isWhole(0) = false; dye(0, 6, 0); isWhole(0) = false; dye(0, 7, 0); isWhole(0) = true");
+        BOOK.holds("`colourway`: the colourway", EIGHT_COLOURWAYS, grey(1), "paint(0, 0, 0, 1, 1, 1); dye(7, 1, 0); isWhole(7) = true; isWhole(0) = false; isWhole(6) = false");
+        BOOK.holds("Returns true if so", grey(10), TWO_COLOURS, "dye(0, 1, 0); isWhole(0) = false; paint(0, 0, 0, 4, 3, 2); isWhole(0) = false; paint(0, 0, 0, 4, 3, 1); isWhole(0) = true; paint(0, 0, 0, 4, 3, 0); isWhole(0) = true");
+        BOOK.refuses(Book.NONE_SUCH, NO_COLOURWAY, TWO_COLOURS, "isWhole(1); isWhole(-1); isWhole(2147483647); isWhole(-2147483648)");
     }
 
     private static void cylinders() {
-        Repeatroll house = new Repeatroll();
-        house.motif(4, 2, 's');
-        house.colourway(0);
-        CHECK.due("cylinders without colours", house.cylinders(0), 0);
-        house.ink(50, 50, 50);
-        house.ink(80, 80, 80);
-        house.ink(40, 40, 40);
-        house.paint(0, 0, 0, 1, 1, 1);
-        CHECK.refused(house, "cylinders of one that is not whole", UNFIT, () -> house.cylinders(0));
-        house.dye(0, 1, 2);
-        CHECK.due("one ink by itself, not two that make it", house.cylinders(0), 4);
-        house.paint(0, 1, 0, 1, 1, 2);
-        house.dye(0, 2, 0);
-        CHECK.due("two inks: the set of the least sum", house.cylinders(0), 3);
-        house.paint(0, 2, 0, 1, 1, 3);
-        house.dye(0, 3, 1);
-        CHECK.due("three colours of two cylinders", house.cylinders(0), 3);
-        house.dye(0, 3, 2);
-        house.dye(0, 1, 0);
-        CHECK.due("two colours of one ink", house.cylinders(0), 3);
-        CHECK.refused(house, "cylinders of no colourway", NONE_SUCH, () -> house.cylinders(1));
-    }
-
-    private static void cylindersOfPairs() {
-        Repeatroll house = new Repeatroll();
-        house.motif(4, 2, 's');
-        house.colourway(0);
-        house.ink(50, 50, 50);
-        house.ink(25, 25, 25);
-        house.paint(0, 0, 0, 1, 1, 1);
-        house.paint(0, 1, 0, 1, 1, 2);
-        house.dye(0, 1, 0);
-        house.dye(0, 2, 1);
-        CHECK.due("an ink over itself makes none", house.cylinders(0), 3);
-        house.ink(50, 50, 50);
-        CHECK.due("two inks of one lightness do", house.cylinders(0), 3);
-        CHECK.due("the ink goes ahead of the pair", house.made(0, 2), 2);
-        house.paint(0, 2, 0, 1, 1, 3);
-        house.dye(0, 3, 2);
-        CHECK.due("fewer than three are taken", house.cylinders(0), 5);
-        CHECK.due("and the pair makes the second colour", house.made(0, 2), 5);
-        house.ink(25, 26, 25);
-        house.dye(0, 2, 3);
-        CHECK.due("one lamp that is unlike is enough", house.cylinders(0), 13);
+        BOOK.open("Promise 15");
+        BOOK.holds("Returns the cylinders, as bits by the numbers of inks", TEN_INKS, TWO_COLOURS, "dye(0, 1, 9); dye(0, 2, 9); cylinders(0) = 512; dye(0, 1, 0); dye(0, 2, 0); cylinders(0) = 1");
+        BOOK.holds("`colourway`: the colourway", EIGHT_COLOURWAYS, grey(70, 60), "paint(0, 0, 0, 1, 1, 1); dye(0, 1, 0); dye(7, 1, 1); cylinders(7) = 2; cylinders(0) = 1");
+        BOOK.holds("Returns the bits", grey(51, 52, 53, 54, 55, 56, 57, 58, 59, 60), SEVEN_COLOURS,
+            "dye(0, 1, 9); dye(0, 2, 8); dye(0, 3, 7); dye(0, 4, 3); dye(0, 5, 2); dye(0, 6, 1); dye(0, 7, 0); cylinders(0) = 911");
+        BOOK.holds("Returns the bits", "motif(2, 2, 's'); colourway(0); cylinders(0) = 0");
+        BOOK.refuses(Book.NONE_SUCH, NO_COLOURWAY, NOT_WHOLE, "cylinders(1); cylinders(-1); cylinders(2147483647); cylinders(-2147483648)");
+        BOOK.refuses(Book.UNFIT, "it is not whole", NOT_WHOLE, "cylinders(0)");
+        BOOK.holds("or no set of cylinders makes it", grey(1), TWO_COLOURS, "dye(0, 1, 0); dye(0, 2, 0); cylinders(0) = 1");
     }
 
     private static void made() {
-        Repeatroll house = new Repeatroll();
-        house.motif(4, 2, 's');
-        house.colourway(0);
-        house.ink(20, 20, 20);
-        house.ink(40, 40, 40);
-        house.ink(50, 50, 50);
-        house.ink(100, 100, 100);
-        house.ink(90, 90, 90);
-        CHECK.due("a colour that no cell has", house.made(0, 7), 0);
-        for (int colour = 1; colour < 5; colour++) {
-            house.paint(0, colour - 1, 0, 1, 1, colour);
-        }
-        CHECK.refused(house, "made in one that is not whole", UNFIT, () -> house.made(0, 1));
-        house.dye(0, 1, 0);
-        house.dye(0, 2, 1);
-        house.dye(0, 3, 2);
-        house.dye(0, 4, 4);
-        CHECK.due("the set", house.cylinders(0), 22);
-        CHECK.due("made by two, the least numbers", house.made(0, 1), 6);
-        CHECK.due("made by itself", house.made(0, 2), 2);
-        CHECK.due("made by itself, too", house.made(0, 4), 16);
-        CHECK.due("a colour without cells", house.made(0, 5), 0);
-        CHECK.refused(house, "made in no colourway", NONE_SUCH, () -> house.made(1, 0));
-        CHECK.refused(house, "made of the ground", WRONG, () -> house.made(0, 0));
-        CHECK.refused(house, "made of colour 8", WRONG, () -> house.made(0, 8));
-        house.paint(0, 0, 1, 1, 1, 6);
-        CHECK.refused(house, "made of colour 8, not whole", WRONG, () -> house.made(0, 8));
+        BOOK.open("Promise 16");
+        BOOK.holds("Returns by which cylinders a colour is printed, as bits", grey(80, 50, 40), THREE_COLOURS, "dye(0, 1, 0); dye(0, 2, 1); dye(0, 3, 2); made(0, 1) = 1; made(0, 2) = 2; made(0, 3) = 3");
+        BOOK.holds("`colourway`: the colourway", EIGHT_COLOURWAYS, grey(70, 60), "paint(0, 0, 0, 1, 1, 1); dye(0, 1, 0); dye(7, 1, 1); made(7, 1) = 2; made(0, 1) = 1");
+        BOOK.holds("`colour`: 1 to 7", grey(70, 60), SEVEN_COLOURS, "dye(0, 1, 1); dye(0, 2, 0); dye(0, 3, 0); dye(0, 4, 0); dye(0, 5, 0); dye(0, 6, 0); dye(0, 7, 1); made(0, 1) = 2; made(0, 7) = 2; made(0, 2) = 1; made(0, 6) = 1");
+        BOOK.holds("0 for a colour that no cell has", grey(70, 60), TWO_COLOURS, "dye(0, 1, 0); dye(0, 2, 1); dye(0, 3, 1); made(0, 3) = 0; made(0, 7) = 0; paint(0, 2, 1, 1, 1, 1); made(0, 2) = 0; cylinders(0) = 1");
+        BOOK.holds("Returns the bits", TEN_INKS, TWO_COLOURS, "dye(0, 1, 9); dye(0, 2, 9); made(0, 1) = 512; made(0, 2) = 512; made(0, 3) = 0");
+        BOOK.refuses(Book.NONE_SUCH, NO_COLOURWAY, NOT_WHOLE, "made(1, 1); made(-1, 1); made(2147483647, 1)");
+        BOOK.refuses(Book.WRONG, "no such colour", grey(1) + TWO_COLOURS + "dye(0, 1, 0); dye(0, 2, 0)", "made(0, 0); made(0, 8); made(0, -1); made(0, 2147483647); made(0, -2147483648)");
+        BOOK.refuses(Book.UNFIT, "it is not whole", NOT_WHOLE, "made(0, 1); made(0, 2); made(0, 7)");
+        BOOK.holds("or no set of cylinders makes it", grey(1), TWO_COLOURS, "dye(0, 1, 0); dye(0, 2, 0); made(0, 2) = 1");
+        BOOK.refuses(Book.NONE_SUCH, "Throws `IndexOutOfBoundsException`", NOT_WHOLE, "made(1, 0); made(-1, 8)");
+        BOOK.refuses(Book.WRONG, "Throws `IllegalArgumentException`", NOT_WHOLE, "made(0, 0); made(0, 8)");
     }
 
     private static void contrast() {
-        Repeatroll house = new Repeatroll();
-        house.motif(4, 3, 's');
-        house.colourway(0);
-        house.ink(10, 20, 30);
-        house.ink(15, 50, 0);
-        CHECK.refused(house, "contrast without pairs", NO_MEAN, () -> house.contrast(0, 0));
-        house.paint(0, 0, 0, 1, 1, 1);
-        CHECK.refused(house, "contrast of one that is not whole", UNFIT, () -> house.contrast(0, 0));
-        CHECK.refused(house, "contrast of such a one under lamp 3", NONE_SUCH, () -> house.contrast(0, 3));
-        house.dye(0, 1, 0);
-        house.dye(0, 2, 1);
-        house.dye(0, 3, 0);
-        CHECK.refused(house, "contrast to the ground alone", NO_MEAN, () -> house.contrast(0, 0));
-        house.paint(0, 3, 0, 1, 1, 2);
-        CHECK.due("contrast around, lamp 0", house.contrast(0, 0), 5f);
-        CHECK.due("contrast around, lamp 1", house.contrast(0, 1), 30f);
-        CHECK.due("contrast around, lamp 2", house.contrast(0, 2), 30f);
-        house.paint(0, 0, 1, 1, 1, 3);
-        CHECK.due("a pair of one ink counts", house.contrast(0, 0), 2.5f);
-        house.paint(0, 1, 1, 1, 1, 1);
-        CHECK.due("a mean that is no whole number", house.contrast(0, 1), 10f);
-        house.paint(0, 3, 2, 1, 1, 3);
-        CHECK.due("a mean of four", house.contrast(0, 1), 60f / 4f);
-        CHECK.refused(house, "contrast of no colourway", NONE_SUCH, () -> house.contrast(1, 0));
-        CHECK.refused(house, "contrast under lamp -1", NONE_SUCH, () -> house.contrast(0, -1));
+        BOOK.open("Promise 17");
+        String pair = "ink(10, 20, 30); ink(15, 50, 0); motif(4, 3, 's'); colourway(0); dye(0, 1, 0); dye(0, 2, 1); paint(0, 0, 0, 1, 1, 1); paint(0, 1, 0, 1, 1, 2);";
+        BOOK.holds("Returns the contrast", pair, "contrast(0, 0) = 5.0");
+        BOOK.holds("`colourway`: the colourway", EIGHT_COLOURWAYS, grey(70, 60, 30), "paint(0, 0, 0, 1, 1, 1); paint(0, 1, 0, 1, 1, 2); dye(0, 1, 0); dye(0, 2, 1); dye(7, 1, 0); dye(7, 2, 2); contrast(7, 0) = 40.0; contrast(0, 0) = 10.0");
+        BOOK.holds("`lamp`: 0 to 2", pair, "contrast(0, 0) = 5.0; contrast(0, 1) = 30.0; contrast(0, 2) = 30.0; contrast(0, 3) = throws.IndexOutOfBoundsException; contrast(0, -1) = throws.IndexOutOfBoundsException");
+        BOOK.holds("both converted to float", grey(0, 10), "motif(4, 4, 's'); colourway(0); dye(0, 1, 0); dye(0, 2, 1); dye(0, 3, 0); paint(0, 0, 0, 1, 1, 1); paint(0, 1, 0, 1, 1, 2)",
+            "paint(0, 0, 1, 1, 1, 3); paint(0, 0, 3, 1, 1, 3); contrast(0, 0) = 3.3333333");
+        BOOK.holds("both converted to float", grey(0, 100, 50), "motif(12, 12, 't'); colourway(0); dye(0, 1, 0); dye(0, 2, 1); dye(0, 3, 2); paint(0, 0, 0, 12, 12, 1); paint(0, 3, 3, 1, 1, 2)",
+            "paint(0, 7, 7, 1, 1, 3); contrast(0, 0) = 75.0; contrast(0, 2) = 75.0");
+        BOOK.refuses(Book.NONE_SUCH, "no such colourway or lamp", pair, "contrast(1, 0); contrast(-1, 0); contrast(2147483647, 0); contrast(0, 2147483647); contrast(0, -2147483648)");
+        BOOK.refuses(Book.UNFIT, "it is not whole", NOT_WHOLE, "contrast(0, 0); contrast(0, 2)");
+        BOOK.refuses(Book.NO_MEAN, "there are no such pairs", "motif(2, 2, 's'); colourway(0)", "contrast(0, 0); contrast(0, 1); contrast(0, 2)");
+        BOOK.refuses(Book.NO_MEAN, "there are no such pairs", "ink(1, 2, 3); motif(2, 2, 's'); colourway(0); dye(0, 1, 0); paint(0, 0, 0, 1, 1, 1)", "contrast(0, 0)");
+        BOOK.refuses(Book.NO_MEAN, "there are no such pairs", "ink(1, 2, 3); motif(2, 2, 's'); colourway(0); dye(0, 1, 0); paint(0, 0, 0, 2, 2, 1)", "contrast(0, 0)");
+        BOOK.refuses(Book.NO_MEAN, "there are no such pairs", "ink(1, 2, 3); ink(3, 2, 1);" + TWO_COLOURS + "dye(0, 1, 0); dye(0, 2, 1)", "contrast(0, 0)");
+        BOOK.refuses(Book.NONE_SUCH, "Throws `IndexOutOfBoundsException`", NOT_WHOLE, "contrast(0, 3); contrast(0, -1); contrast(1, 0)");
+        BOOK.refuses(Book.UNFIT, "Throws `UnsupportedOperationException`", "motif(2, 2, 's'); colourway(0); paint(0, 0, 0, 1, 1, 1)", "contrast(0, 0)");
+        BOOK.refuses(Book.NONE_SUCH, "Throws `IndexOutOfBoundsException`", "motif(2, 2, 's'); colourway(0)", "contrast(0, 3); contrast(0, -1)");
     }
 
     private static void falseTwins() {
-        Repeatroll house = new Repeatroll();
-        house.motif(4, 3, 's');
-        house.colourway(0);
-        house.ink(50, 50, 50);
-        house.ink(52, 61, 50);
-        house.ink(48, 50, 39);
-        house.ink(53, 0, 0);
-        house.ink(50, 60, 40);
-        for (int colour = 1; colour < 6; colour++) {
-            house.dye(0, colour, colour - 1);
-        }
-        CHECK.due("twins without cells", house.falseTwins(0), 0);
-        house.paint(0, 0, 0, 1, 1, 1);
-        house.paint(0, 2, 2, 1, 1, 2);
-        CHECK.due("twins under lamp 1", house.falseTwins(0), 1);
-        house.paint(0, 2, 2, 1, 1, 3);
-        CHECK.due("twins under lamp 2", house.falseTwins(0), 1);
-        house.paint(0, 2, 2, 1, 1, 4);
-        CHECK.due("3 apart under lamp 0", house.falseTwins(0), 0);
-        house.paint(0, 2, 2, 1, 1, 5);
-        CHECK.due("10 apart under the others", house.falseTwins(0), 0);
-        house.paint(0, 0, 0, 1, 1, 2);
-        house.paint(0, 2, 2, 1, 1, 3);
-        CHECK.due("4 apart under lamp 0", house.falseTwins(0), 0);
-        house.paint(0, 1, 1, 1, 1, 1);
-        CHECK.due("two pairs of three", house.falseTwins(0), 2);
-        house.paint(0, 3, 0, 1, 1, 7);
-        CHECK.refused(house, "twins in one that is not whole", UNFIT, () -> house.falseTwins(0));
-        CHECK.refused(house, "twins in no colourway", NONE_SUCH, () -> house.falseTwins(1));
+        BOOK.open("Promise 18");
+        String shifted = "ink(50, 0, 9); ink(51, 11, 9); ink(52, 22, 9); ink(50, 33, 9); ink(51, 44, 9); ink(50, 55, 9); ink(52, 66, 9);";
+        String dyed = "dye(0, 1, 0); dye(0, 2, 1); dye(0, 3, 2); dye(0, 4, 3); dye(0, 5, 4); dye(0, 6, 5); dye(0, 7, 6);";
+        BOOK.holds("Returns how many pairs of colours", shifted, SEVEN_COLOURS, dyed, "falseTwins(0) = 21");
+        BOOK.holds("that cells have, are false twins", shifted, "motif(4, 3, 's'); colourway(0);", dyed, "falseTwins(0) = 0; paint(0, 0, 0, 1, 1, 1); falseTwins(0) = 0; paint(0, 2, 1, 1, 1, 7); falseTwins(0) = 1; paint(0, 2, 2, 1, 1, 4); falseTwins(0) = 3");
+        BOOK.holds("`colourway`: the colourway", EIGHT_COLOURWAYS, shifted, "paint(0, 0, 0, 1, 1, 1); paint(0, 1, 1, 1, 1, 2); dye(0, 1, 0); dye(0, 2, 0); dye(7, 1, 0); dye(7, 2, 1); falseTwins(7) = 1; falseTwins(0) = 0");
+        BOOK.holds("Returns how many.", "ink(50, 50, 50); ink(52, 61, 50); ink(48, 50, 39);", THREE_COLOURS, "dye(0, 1, 0); dye(0, 2, 1); dye(0, 3, 2); falseTwins(0) = 2; dye(0, 3, 1); falseTwins(0) = 2; dye(0, 1, 1); falseTwins(0) = 0");
+        BOOK.refuses(Book.NONE_SUCH, NO_COLOURWAY, NOT_WHOLE, "falseTwins(1); falseTwins(-1); falseTwins(2147483647); falseTwins(-2147483648)");
+        BOOK.refuses(Book.UNFIT, "it is not whole", NOT_WHOLE, "falseTwins(0)");
     }
 }

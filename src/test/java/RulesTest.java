@@ -3,11 +3,15 @@ import java.lang.reflect.Constructor;
 import java.lang.reflect.Field;
 import java.lang.reflect.Method;
 import java.lang.reflect.Modifier;
+import java.nio.file.DirectoryStream;
 import java.nio.file.Files;
 import java.nio.file.Path;
 import java.util.ArrayList;
 import java.util.List;
+import java.util.Set;
 import java.util.TreeSet;
+import java.util.regex.Matcher;
+import java.util.regex.Pattern;
 
 /** The face as the document has it, and what LANGUAGE.md keeps out of the file. */
 public final class RulesTest {
@@ -25,18 +29,16 @@ public final class RulesTest {
         noOtherMembers();
         keptOut();
         methodsAreShort();
+        everyHeadingIsOpened();
         CHECK.end();
     }
 
-    private static void face() throws IOException {
-        String document = Files.readString(Path.of("../shared/DOC.md"));
-        int begin = document.indexOf("public final class Repeatroll {");
-        String block = document.substring(begin, document.indexOf("```", begin));
+    private static void face() {
         TreeSet<String> due = new TreeSet<>();
-        for (String line : block.split("\n")) {
-            String member = line.strip();
-            if (member.startsWith("public ") && member.endsWith(";")) {
-                due.add(member.replaceAll("(int|char|boolean) \\w+(?=[,)])", "$1").replace(", ", ",").replace(";", ""));
+        for (String part : new Document().face().replaceFirst(".*\\{", "").split(";")) {
+            String member = part.strip();
+            if (member.startsWith("public ")) {
+                due.add(member.replaceAll("(int|char|boolean) \\w+(?=[,)])", "$1").replace(", ", ","));
             }
         }
         TreeSet<String> got = new TreeSet<>();
@@ -111,5 +113,21 @@ public final class RulesTest {
                 end = "";
             }
         }
+    }
+
+    /** A test for each promise and for each part of the terms opens it, and fails if one of its sentences is not quoted. */
+    private static void everyHeadingIsOpened() throws IOException {
+        TreeSet<String> opened = new TreeSet<>();
+        try (DirectoryStream<Path> tests = Files.newDirectoryStream(Path.of("src/test/java"), "*Test.java")) {
+            for (Path test : tests) {
+                Matcher opens = Pattern.compile("BOOK\\.open\\(\"([^\"]+)\"\\)").matcher(Files.readString(test));
+                while (opens.find()) {
+                    opened.add(opens.group(1));
+                }
+            }
+        }
+        TreeSet<String> headings = new TreeSet<>(new Document().headings());
+        headings.removeAll(Set.of("", "The public face", "Not promised"));
+        CHECK.due("headings that a test opens", opened, headings);
     }
 }
