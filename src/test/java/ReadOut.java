@@ -36,12 +36,14 @@ final class ReadOut {
     }
 
     private static String inks() {
-        return each(10, "over(#, #, 0); over(#, #, 1); over(#, #, 2)") + each(8, "isWhole(#); cylinders(#); falseTwins(#); contrast(#, 0); contrast(#, 1)")
-            + each(8, "bare(#); stained(#); standardBits(#); made(#, 1); made(#, 2); made(#, 3); made(#, 7)") + "ink(1, 1, 1); colourway(0)";
+        return each(10, "over(#, #, 0); over(#, #, 1); over(#, #, 2)")
+            + each(8, "isWhole(#); cylinders(#); falseTwins(#); contrast(#, 0); contrast(#, 1); bare(#); stained(#); standardBits(#)")
+            + each(8, "made(#, 1); made(#, 2); made(#, 3); made(#, 7)") + "ink(1, 1, 1); colourway(0)";
     }
 
     private static String registers() {
-        return each(10, "slip(0, #, 0, 0); slip(1, #, 0, 0); slip(2, #, 0, 0)") + each(10, "spread(0, #, false); spread(1, #, false); spread(2, #, false)");
+        return each(10, "slip(0, #, 0, 0); slip(1, #, 0, 0); slip(2, #, 0, 0)")
+            + each(10, "spread(0, #, false); spread(1, #, false); spread(2, #, false)");
     }
 
     private static String dyes() {

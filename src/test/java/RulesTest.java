@@ -67,7 +67,8 @@ public final class RulesTest {
         List<Class<?>> classes = new ArrayList<>(List.of(Repeatroll.class.getDeclaredClasses()));
         CHECK.due("some twelve classes", classes.size() <= 12, true);
         for (Class<?> inside : classes) {
-            CHECK.due(inside + " is private and static", inside.getModifiers() & (Modifier.PRIVATE | Modifier.STATIC), Modifier.PRIVATE | Modifier.STATIC);
+            int hidden = Modifier.PRIVATE | Modifier.STATIC;
+            CHECK.due(inside + " is private and static", inside.getModifiers() & hidden, hidden);
         }
         classes.add(Repeatroll.class);
         for (Class<?> each : classes) {
