@@ -41,7 +41,7 @@ final class Book {
         int asked = 0;
         for (int number = 0; number < calls.size(); number++) {
             Call call = calls.get(number);
-            String got = call.on(house);
+            String got = call.onWatched(house);
             if (call.due() != null) {
                 check.due(at(words, "call " + number + ", " + call), got, call.due());
                 asked++;
@@ -73,8 +73,14 @@ final class Book {
             Repeatroll house = replay(before);
             Repeatroll other = replay(before);
             refused.on(house);
-            int room = MOST_CALLS - before.size() - 1;
-            check.due(at(words, "what the house tells after " + refused), ReadOut.of(house, question, room), ReadOut.of(other, question, room));
+            int room = Math.min(question.size(), MOST_CALLS - before.size() - 1);
+            String unlike = "";
+            for (Call call : question.subList(0, room)) {
+                String got = call.on(house);
+                String want = call.on(other);
+                unlike = unlike.isEmpty() && !got.equals(want) ? call + " answers " + got + ", not " + want : unlike;
+            }
+            check.due(at(words, "what is unlike after " + refused), unlike, "");
         }
     }
 

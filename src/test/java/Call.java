@@ -59,13 +59,27 @@ record Call(Method method, Object[] values, String due) {
         return Integer.valueOf(written);
     }
 
-    /** The answer as a text, or "throws." and the class, with a mark if it was not thrown by a throw of the house. */
+    /** The answer as a text, or "throws." and the class that was thrown. */
     String on(Repeatroll house) {
+        return told(answer(house));
+    }
+
+    /** The same, with a mark if something was thrown by no throw of the house; it takes its time. */
+    String onWatched(Repeatroll house) {
+        Object answer = answer(house);
+        boolean isStrange = answer instanceof Throwable thrown && !Check.isOwn(thrown);
+        return told(answer) + (isStrange ? " of the machine" : "");
+    }
+
+    private static String told(Object answer) {
+        return answer instanceof Throwable thrown ? "throws." + thrown.getClass().getSimpleName() : String.valueOf(answer);
+    }
+
+    private Object answer(Repeatroll house) {
         try {
-            return String.valueOf(method.invoke(house, values));
+            return method.invoke(house, values);
         } catch (InvocationTargetException thrown) {
-            Throwable cause = thrown.getCause();
-            return "throws." + cause.getClass().getSimpleName() + (Check.isOwn(cause) ? "" : " of the machine");
+            return thrown.getCause();
         } catch (IllegalAccessException impossible) {
             throw new IllegalStateException(impossible);
         }

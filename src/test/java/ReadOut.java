@@ -9,18 +9,6 @@ final class ReadOut {
     private ReadOut() {
     }
 
-    static String of(Repeatroll house, List<Call> question, int most) {
-        StringBuilder told = new StringBuilder();
-        int asked = 0;
-        for (Call call : question) {
-            if (asked < most) {
-                told.append(call).append(' ').append(call.on(house)).append('\n');
-                asked++;
-            }
-        }
-        return told.toString();
-    }
-
     private static String each(int count, String calls) {
         StringBuilder all = new StringBuilder();
         for (int number = 0; number < count; number++) {
