@@ -50,6 +50,8 @@ public final class MotifsTest {
             "motif(3, 2, 'd') = 0; motif(3, 12, 'd') = 1; motif(3, 3, 'd') = throws.IllegalArgumentException",
             "motif(3, 11, 'd') = throws.IllegalArgumentException",
             "motif(3, 3, 's') = 2; motif(3, 11, 't') = 3");
+        BOOK.holds("'s' straight", "motif(3, 3, 's') = 0; motif(2, 11, 's') = 1; motif(2, 12, 's') = 2; period(1, true) = 11; period(2, false) = 2");
+        BOOK.holds("or 't' turned", "motif(3, 3, 't') = 0; motif(2, 11, 't') = 1; motif(2, 12, 't') = 2; period(1, true) = 22; period(2, false) = 4");
         BOOK.holds("Its cells have colours, 0 to 7",
             "motif(2, 2, 's'); paint(0, 0, 0, 1, 1, 7) = 1; cell(0, 0, 0) = 7; paint(0, 0, 0, 1, 1, 0) = 1; cell(0, 0, 0) = 0",
             "paint(0, 0, 0, 1, 1, 8) = throws.IllegalArgumentException; paint(0, 0, 0, 1, 1, -1) = throws.IllegalArgumentException");
@@ -84,6 +86,8 @@ public final class MotifsTest {
             corners,
             "colourAt(0, -1, -1) = 2; colourAt(0, -3, -2) = 1; colourAt(0, -4, -3) = 2; colourAt(0, -6, 0) = 1; colourAt(0, 0, -4) = 1",
             "colourAt(0, -2, -1) = 0");
+        BOOK.holds("lie beside and above each other on all of the cloth",
+            corners, "colourAt(0, 9999, 9998) = 1; colourAt(0, -9999, -9998) = 1; colourAt(0, 9998, -9999) = 2; colourAt(0, -9997, 9999) = 2");
         BOOK.holds("In 's', each tile is the motif",
             "motif(2, 3, 's');", SIX_COLOURS,
             "colourAt(0, 10, -12) = 1; colourAt(0, 11, -12) = 2; colourAt(0, 10, -11) = 3; colourAt(0, 11, -11) = 4; colourAt(0, 10, -10) = 5",
@@ -139,6 +143,9 @@ public final class MotifsTest {
     }
 
     private static void periods() {
+        BOOK.holds("The period is what comes back",
+            "motif(3, 2, 't'); paint(0, 0, 0, 1, 1, 5); colourAt(0, 6, 0) = 5; colourAt(0, 0, 4) = 5; colourAt(0, -6, -4) = 5",
+            "colourAt(0, 3, 0) = 0; colourAt(0, 0, 2) = 0; colourAt(0, 3, 2) = 5; isSound() = true");
         BOOK.holds("as wide and high as the motif in 's'",
             "motif(2, 2, 's'); motif(12, 11, 's'); period(0, false) = 2; period(0, true) = 2; period(1, false) = 12; period(1, true) = 11");
         BOOK.holds("twice as wide in 'd'",

@@ -151,6 +151,9 @@ public final class RegistersTest {
             "culprit() = throws.NoSuchElementException");
         BOOK.holds("whose circumference divides all of the differences of those that follow each other",
             "roller(60); roller(50); streak(0); streak(50); culprit() = 1; streak(60); culprit() = throws.NoSuchElementException");
+        BOOK.holds("all of the differences of those that follow each other",
+            "roller(2); streak(0); streak(2); streak(4); streak(6); streak(8); streak(10); streak(12); streak(14); streak(16); culprit() = 0",
+            "streak(19); culprit() = throws.NoSuchElementException");
         BOOK.holds("of several the greatest, then the lowest",
             "roller(5); roller(10); roller(20); roller(20); roller(7); roller(10); streak(1); streak(41); culprit() = 2; streak(51)",
             "culprit() = 1; streak(56); culprit() = 0");

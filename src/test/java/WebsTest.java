@@ -97,6 +97,9 @@ public final class WebsTest {
 
     private static void shadesOfTerms() {
         BOOK.holds("a shade, in hundredths", LICENSED, "web(0, 10, 0, 125, 0); cut(0, 10, 0); shadeBits(0) = " + bits(1.25f));
+        BOOK.holds("plus the drift, divided by 1000, as a float",
+            LICENSED, "web(0, 10, 0, 100, 1); web(0, 10, 0, 100, -1); mark(0, 0, 1); mark(1, 0, 1); cut(0, 9, 0) = 1; cut(1, 9, 0) = 1",
+            "placeOf(0) = 1; shadeBits(0) = " + bits(1f + 0.001f), "shadeBits(1) = " + bits(1f - 0.001f));
         BOOK.holds("and a drift, in thousandths", LICENSED, "web(0, 20, 0, 0, 125); cut(0, 10, 0); shadeBits(0) = 0; shadeBits(1) = " + bits(1.25f));
         int[][] shadesAndDrifts = {
             {0, 0}, {-9999, 999}, {9999, -999}, {9999, 999}, {-9999, -999}, {1, 1}, {-1, 1}, {1, -1}, {333, 7}, {0, -1}, {-50, 50}, {-7, 70}};
