@@ -168,6 +168,11 @@ public final class RoomsTest {
             stock("2, 12, 't'", 20, 20), "wall(4, 6); opening(0, 2); offset(0, 5) = 12; hang(0, 5) = 1; lengthOf(0) = 14");
         BOOK.holds("from 0 up to the height of the period less 1",
             stock("2, 2, 'd'", 20, 20), "wall(4, 6); opening(0, 2); offset(0, 5) = 1; wall(2, 6); opening(2, 4); offset(0, 5) = 0");
+        BOOK.holds("from 0 up to the height of the period less 1",
+            rolls("2, 6, 'd'", 10, 25), "wall(2, 1); wall(2, 9); wall(2, 3); opening(0, 2); offset(0, 5) = 5; hang(0, 5) = 2",
+            "lengthOf(0) = 10; lengthOf(1) = 11");
+        BOOK.holds("from 0 up to the height of the period less 1",
+            rolls("2, 2, 't'", 14, 23), "wall(2, 7); wall(4, 2); wall(2, 12); offset(0, 5) = 3; hang(0, 5) = 2; lengthOf(0) = 4; lengthOf(1) = 6");
         BOOK.holds("that by which the fewest rolls are begun",
             rolls("2, 12, 'd'", 6, 12), "wall(4, 6); opening(0, 2); offset(0, 5) = 6; hang(0, 5) = 1; lengthOf(0) = 0; lengthOf(1) = 12");
         BOOK.holds("that by which the fewest rolls are begun",
@@ -179,6 +184,10 @@ public final class RoomsTest {
             "wall(9, 6); wall(4, 5); opening(4, 8); offset(0, 5) = 0; hang(0, 5) = 3; lengthOf(0) = 4; lengthOf(1) = 4; lengthOf(2) = 3");
         BOOK.holds("the one that leaves most behind the last cut of all rolls begun",
             rolls("2, 12, 'd'", 5, 20), "wall(4, 6); opening(0, 2); offset(0, 5) = 6; hang(0, 5) = 2; lengthOf(0) = 5; lengthOf(1) = 14");
+        BOOK.holds("the one that leaves most behind the last cut of all rolls begun",
+            rolls("2, 4, 's'", 12, 14), "wall(2, 5); wall(2, 4); wall(2, 2); offset(0, 5) = 1; hang(0, 5) = 2; lengthOf(0) = 6; lengthOf(1) = 7");
+        BOOK.holds("the one that leaves most behind the last cut of all rolls begun",
+            rolls("2, 4, 'd'", 10, 19), "wall(2, 10); wall(2, 5); offset(0, 5) = 1; hang(0, 5) = 2; lengthOf(0) = 10; lengthOf(1) = 3");
         BOOK.holds("then the least", stock("2, 12, 'd'", 28, 14), "wall(4, 7); offset(0, 5) = 0; hang(0, 5) = 2; lengthOf(0) = 7; lengthOf(1) = 1");
         BOOK.holds("then the least", stock("2, 6, 'd'", 16, 8), "wall(4, 5); offset(0, 5) = 0; hang(0, 5) = 2; lengthOf(0) = 3; lengthOf(1) = 0");
         BOOK.holds("then the least", stock("2, 2, 's'", 10, 10), "wall(2, 2); opening(0, 2); offset(0, 5) = 0");
