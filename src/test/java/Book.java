@@ -28,7 +28,9 @@ final class Book {
 
     /** The tests that follow quote what stands under this heading. */
     void open(String heading) {
-        check.due("there is a heading " + heading, document.headings().contains(heading), true);
+        if (!Document.IS_LEFT_OUT) {
+            check.due("there is a heading " + heading, document.headings().contains(heading), true);
+        }
         headings.add(heading);
     }
 
@@ -106,7 +108,9 @@ final class Book {
                 isFound = true;
             }
         }
-        check.due(at(words, "the words are the document's"), isFound, true);
+        if (!Document.IS_LEFT_OUT) {
+            check.due(at(words, "the words are the document's"), isFound, true);
+        }
     }
 
     private String at(String words, String what) {

@@ -9,6 +9,10 @@ import java.util.Map;
 
 /** What ../shared/DOC.md says under each heading: the parts of its sentences, which end with a full stop or a semicolon. */
 final class Document {
+    /** For who has only the project: the calls of the tests are made, but no words are looked for in the document. */
+    static final boolean IS_LEFT_OUT = Boolean.getBoolean("alone");
+    private static final Path PAGE = Path.of("../shared/DOC.md");
+
     private final Map<String, List<String>> sentences = new LinkedHashMap<>();
     private final List<String> blocks = new ArrayList<>();
     private final StringBuilder paragraph = new StringBuilder();
@@ -35,7 +39,7 @@ final class Document {
 
     private static List<String> lines() {
         try {
-            return Files.readAllLines(Path.of("../shared/DOC.md"));
+            return IS_LEFT_OUT ? List.of() : Files.readAllLines(PAGE);
         } catch (IOException unreadable) {
             throw new UncheckedIOException(unreadable);
         }
@@ -70,6 +74,6 @@ final class Document {
     }
 
     List<String> examples() {
-        return blocks.subList(1, blocks.size());
+        return IS_LEFT_OUT ? List.of() : blocks.subList(1, blocks.size());
     }
 }

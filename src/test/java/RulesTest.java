@@ -25,11 +25,14 @@ public final class RulesTest {
     }
 
     public static void main(String[] args) throws IOException {
-        face();
+        if (!Document.IS_LEFT_OUT) {
+            face();
+            faceToTheLetter();
+            everyHeadingIsOpened();
+        }
         noOtherMembers();
         keptOut();
         methodsAreShort();
-        everyHeadingIsOpened();
         CHECK.end();
     }
 
@@ -53,6 +56,21 @@ public final class RulesTest {
         CHECK.due("the face", got, due);
         CHECK.due("how many members", got.size(), 53);
         CHECK.due("the class", Modifier.toString(Repeatroll.class.getModifiers()), "public final");
+    }
+
+    /** The names of parameters do not stand in the class, but in its file. */
+    private static void faceToTheLetter() throws IOException {
+        String source = Files.readString(Path.of("src/main/java/Repeatroll.java"));
+        int members = 0;
+        for (String part : new Document().face().replaceFirst(".*?\\{", "").split(";")) {
+            if (part.strip().startsWith("public ")) {
+                CHECK.due("the file has " + part.strip(), source.contains("\n    " + part.strip() + " {\n"), true);
+                members++;
+            }
+        }
+        CHECK.due("how many members the document has", members, 53);
+        CHECK.due("how many public ones the file has", source.split("\\bpublic ", -1).length - 1, 54);
+        CHECK.due("the file imports what the face does", source.contains("\nimport java.util.NoSuchElementException;\n"), true);
     }
 
     private static String shortened(String member) {
